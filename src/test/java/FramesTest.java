@@ -5,7 +5,7 @@ public final class FramesTest {
 
     public static void main(String[] args) {
         frames();
-        refusedFrames();
+        outputsAndRefusals();
         frameBytes();
         pokes();
         signs();
@@ -40,8 +40,8 @@ public final class FramesTest {
         Due.due("8: x, the lower", rows.frameByte(1), 0x34);
     }
 
-    /** An output is the ^ of its parts, the sums among them. */
-    private static void refusedFrames() {
+    /** An output is the ^ of its parts, the sums among them; a refused frame leaves the one at hand. */
+    private static void outputsAndRefusals() {
         FountainRows rows = new FountainRows();
         rows.source(4, 3, 1, 31);
         for (int i = 0; i < 4; i++) {
