@@ -1,14 +1,20 @@
 /** Counts the answers that are not as due, and ends a test accordingly. */
 final class Due {
     private static int wrong = 0;
+    private static String by = "";
 
     private Due() {
+    }
+
+    /** Says by which words of the document the answers are due from here on. */
+    static void sentence(String place, String words) {
+        by = place + " \"" + words + "\": ";
     }
 
     static void due(String call, long got, long want) {
         if (got != want) {
             wrong++;
-            System.out.println(call + " answered " + got + ", due is " + want);
+            System.out.println(by + call + " answered " + got + ", due is " + want);
         }
     }
 

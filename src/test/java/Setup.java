@@ -2,6 +2,9 @@ import java.util.BitSet;
 
 /** What several tests need to bring an object into a state. */
 final class Setup {
+    static final int LOW = Integer.MIN_VALUE;
+    static final int HIGH = Integer.MAX_VALUE;
+
     private Setup() {
     }
 
@@ -11,22 +14,39 @@ final class Setup {
         }
     }
 
-    /** The least number from k on whose row, by pairs alone, is that of the two parts. */
-    static int pair(int k, int seed, int a, int b) {
-        int[] table = {0, 100, 0, 0, 0, 0, 0, 0, 0, 0, 0, 0};
+    /** The least number from k on whose row, by their degree alone, is that of these parts. */
+    static int numberOf(int k, int p, int seed, int... parts) {
+        int[] table = new int[12];
+        table[parts.length - 1] = 100;
         BitSet wanted = new BitSet();
-        wanted.set(a);
-        wanted.set(b);
+        for (int part : parts) {
+            wanted.set(part);
+        }
         for (int x = k; x <= 65535; x++) {
-            if (Model.rowSet(k, 0, seed, table, x).equals(wanted)) {
+            if (Model.rowSet(k, p, seed, table, x).equals(wanted)) {
                 return x;
             }
         }
-        return -1;
+        throw new IllegalStateException("no number has the row of " + wanted);
+    }
+
+    static int pair(int k, int seed, int a, int b) {
+        return numberOf(k, 0, seed, a, b);
     }
 
     static int send(FountainRows rows, int source, int x) {
         rows.frame(source, x);
+        return rows.take();
+    }
+
+    /** Takes a frame of x whose bytes are others than the source has, with the SUM that these have. */
+    static int give(FountainRows rows, int source, int x, long bytes) {
+        int size = rows.frame(source, x) - 4;
+        for (int i = 0; i < size; i++) {
+            int wanted = (int) (bytes >> 8 * (size - 1 - i));
+            rows.poke(2 + i, rows.frameByte(2 + i) ^ wanted);
+        }
+        rows.sign();
         return rows.take();
     }
 
@@ -39,5 +59,16 @@ final class Setup {
         int sum = Model.sumOf(bytes, 0, bytes.length);
         rows.setByte(length - 2, sum >> 8);
         rows.setByte(length - 1, sum & 255);
+    }
+
+    /** THE IMAGE, if it is long enough, becomes these bytes with their SUM behind them. */
+    static void writeImage(FountainRows rows, int... bytes) {
+        rows.cut(bytes.length + 2);
+        for (int i = 0; i < bytes.length; i++) {
+            rows.setByte(i, bytes[i]);
+        }
+        int sum = Model.sumOf(bytes, 0, bytes.length);
+        rows.setByte(bytes.length, sum >> 8);
+        rows.setByte(bytes.length + 1, sum & 255);
     }
 }
